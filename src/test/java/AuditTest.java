@@ -62,7 +62,9 @@ final class AuditTest {
       spoilReading(format);
     }
     spoilSafe();
+    spoilRuns();
     dealings();
+    fewestPasses();
     System.out.println("audit: " + wrong + " wrong");
     if (wrong != 0) {
       System.exit(1);
@@ -138,6 +140,79 @@ final class AuditTest {
       vault.snap(0, blocks - 1);
     }
     due("safe without", true, call(auditor, "isSafeAsLabelsTell", file));
+  }
+
+  /** RUNS as they are told for the keys; then as an order and ends that are not as they must be. */
+  private static void spoilRuns() throws ReflectiveOperationException {
+    runs("as they are", true, 1, new int[] {5, 6, 1, 2, 2}, new int[] {0, 1, 2, 3, 4}, 2, 5);
+    runs("one RUN too many, with memory 1", false, 1, new int[] {5, 6, 1, 2, 2}, new int[] {0, 1, 2, 3, 4}, 1, 2, 5);
+    runs("one RUN too many, with memory 2", true, 2, new int[] {5, 6, 1, 2, 2}, new int[] {0, 1, 2, 3, 4}, 1, 2, 5);
+    runs("a RUN that begins with a like KEY, with memory 1", false, 1, new int[] {5, 6, 1, 2, 2}, new int[] {0, 1, 2, 3, 4}, 2, 4, 5);
+    runs("a RUN that falls", false, 1, new int[] {5, 6, 1, 2, 2}, new int[] {0, 1, 2, 3, 4}, 5);
+    runs("a RUN that falls at its beginning", false, 8, new int[] {6, 5}, new int[] {0, 1}, 2);
+    runs("a RUN that falls at its end", false, 8, new int[] {4, 5, 3}, new int[] {0, 1, 2}, 3);
+    runs("one RECORD twice", false, 8, new int[] {4, 4}, new int[] {0, 0}, 2);
+    runs("one RECORD too few", false, 8, new int[] {4, 4}, new int[] {0}, 1);
+    runs("none", true, 1, new int[0], new int[0]);
+  }
+
+  private static void runs(String told, boolean want, int memory, int[] keys, int[] order, int... ends) throws ReflectiveOperationException {
+    Longtapevault vault = new Longtapevault();
+    for (int key : keys) {
+      vault.put(key, 0, 0, 0);
+    }
+    Object auditor = in(vault, "auditor");
+    call(in(auditor, "sorter", "order"), "empty");
+    call(in(auditor, "sorter", "ends"), "empty");
+    for (int place : order) {
+      call(in(auditor, "sorter", "order"), "add", place);
+    }
+    for (int end : ends) {
+      call(in(auditor, "sorter", "ends"), "add", end);
+    }
+    due("RUNS: " + told, want, call(auditor, "areRunsSound", in(vault, "desk"), memory));
+  }
+
+  /** Told once more, from behind: as promise 33 says, no way to deal 0 to 8 RUNS over one REEL less comes to one RUN in fewer PASSES. */
+  private static void fewestPasses() {
+    for (int reels = 3; reels <= 6; reels++) {
+      for (int runs = 0; runs <= 8; runs++) {
+        int fewest = fewest(new int[reels], 0, runs);
+        due("no fewer PASSES of " + runs + " RUNS over " + reels, true, fewest >= new Longtapevault().passes(reels, runs));
+      }
+    }
+  }
+
+  private static int fewest(int[] dealt, int reel, int left) {
+    if (reel == dealt.length - 1) {
+      return left == 0 ? passesOf(dealt.clone()) : 1000;
+    }
+    int fewest = 1000;
+    for (int n = 0; n <= left; n++) {
+      dealt[reel] = n;
+      fewest = Math.min(fewest, fewest(dealt, reel + 1, left - n));
+    }
+    dealt[reel] = 0;
+    return fewest;
+  }
+
+  private static int passesOf(int[] on) {
+    for (int passes = 0; passes < 100; passes++) {
+      int[] some = java.util.Arrays.stream(on).filter(n -> n > 0).toArray();
+      if (java.util.Arrays.stream(some).sum() <= 1) {
+        return passes;
+      }
+      int least = java.util.Arrays.stream(some).min().getAsInt();
+      int blank = 0;
+      while (on[blank] > 0) {
+        blank++;
+      }
+      for (int r = 0; r < on.length; r++) {
+        on[r] -= on[r] > 0 ? least : 0;
+      }
+      on[blank] = least;
+    }
+    return 1000;
   }
 
   private static void dealings() throws ReflectiveOperationException {
