@@ -33,6 +33,9 @@ final class LanguageTest {
     classes();
     words(lines);
     methods(lines);
+    for (String rule : CodeRules.broken()) {
+      want(false, rule);
+    }
     System.out.println("language: " + wrong + " rules broken");
     if (wrong != 0) {
       System.exit(1);

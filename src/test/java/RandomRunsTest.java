@@ -62,7 +62,9 @@ final class RandomRunsTest {
     try {
       return call.of();
     } catch (RuntimeException e) {
-      return "throws." + e.getClass().getName();
+      StackTraceElement[] trace = e.getStackTrace();
+      boolean isOwn = trace.length > 0 && trace[0].getClassName().endsWith("ault");
+      return (isOwn ? "throws." : "the machine throws.") + e.getClass().getName();
     }
   }
 
